@@ -1,0 +1,63 @@
+/** What the project's tests share: it prints every answer that is not due and counts them. */
+final class Due {
+    interface Call {
+        long answer();
+    }
+
+    private static int looked = 0;
+    private static int wrong = 0;
+
+    private Due() {
+    }
+
+    static void answer(String call, long want, long got) {
+        looked++;
+        if (got != want) {
+            wrong++;
+            System.out.println(call + " answered " + got + ", due is " + want);
+        }
+    }
+
+    static void yes(String call, boolean got) {
+        answer(call, 1, got ? 1 : 0);
+    }
+
+    static void no(String call, boolean got) {
+        answer(call, 0, got ? 1 : 0);
+    }
+
+    static void noIndex(String name, Call call) {
+        refused(name, IndexOutOfBoundsException.class, call);
+    }
+
+    static void noArgument(String name, Call call) {
+        refused(name, IllegalArgumentException.class, call);
+    }
+
+    static void noState(String name, Call call) {
+        refused(name, IllegalStateException.class, call);
+    }
+
+    // The very class is asked for: the machine's own ArrayIndexOutOfBoundsException would be a fault.
+    private static void refused(String name, Class<? extends RuntimeException> want, Call call) {
+        looked++;
+        String got;
+        try {
+            got = "answered " + call.answer();
+        } catch (RuntimeException e) {
+            if (e.getClass() == want) {
+                return;
+            }
+            got = "threw " + e;
+        }
+        wrong++;
+        System.out.println(name + " " + got + ", due is " + want.getSimpleName());
+    }
+
+    static void end(String test) {
+        System.out.println(test + ": " + looked + " answers looked at, " + wrong + " not as due");
+        if (wrong != 0 || looked == 0) {
+            System.exit(1);
+        }
+    }
+}
