@@ -260,6 +260,9 @@ public final class ProfilesTest {
         drawn(x, -25, 20, -5, 0, 5, 0, 25, 20);
         x.cut(0, 3);
         drawn(x, -8, 3, -5, 0, 5, 0, 8, 3);
+        PotVolumes dropped = potOf(0, 5, 20, 25, 30, 9, 40, 8);
+        dropped.cut(0, 20);
+        drawn(dropped, -25, 20, -5, 0, 5, 0, 25, 20);
     }
 
     private static long bit(boolean b) {

@@ -95,8 +95,11 @@ public final class SherdsTest {
         vessels(sherdsOf(700, 800, 200, 300), 2, 3);
         // To the newest alone, 300 would need a third one.
         vessels(sherdsOf(300, 900, 300), 2, 2);
-        PotVolumes x = sherdsOf(600, 600);
+        // Nothing of a count is left for the next one.
+        PotVolumes x = sherdsOf(500, 600);
         vessels(x, 2, 2);
+        vessels(x, 2, 2);
+        x.sherd(0, 500);
         vessels(x, 2, 2);
     }
 

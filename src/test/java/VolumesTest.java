@@ -136,6 +136,10 @@ public final class VolumesTest {
         enclosed(potOf(0, 200, 400, 200), 50265482, 50265483);
         // 20000000 / 3 times 3.14159265 is whole, times 3.14159266 is not.
         enclosed(potOf(0, 200, 100, 200, 300, 0), 20943951, 20943952);
+        // 9653297 / 3 times 3.14159265 is below 10108909, times 3.14159266 it is above by less than 1 / 100000000.
+        enclosed(potOf(0, 200, 5, 19, 289, 172), 10108908, 10108910);
+        // 15680000 times 3.14159266 is below 49260173, times 3.14159267 it would be above.
+        enclosed(potOf(0, 200, 392, 200), 49260172, 49260173);
         PotVolumes x = potOf(0, 0, 0, 30, 60, 60, 90, 0);
         enclosed(x, 508938, 508939);
         x.wall(0, 7);
