@@ -6,24 +6,40 @@ final class Due {
 
     private static int looked = 0;
     private static int wrong = 0;
+    private static int sentences = 0;
+    private static String told = "";
 
     private Due() {
+    }
+
+    /** The sentence of the document that the answers from here on are held against. */
+    static void sentence(String text) {
+        sentences++;
+        told = "[" + text + "] ";
     }
 
     static void answer(String call, long want, long got) {
         looked++;
         if (got != want) {
-            wrong++;
-            System.out.println(call + " answered " + got + ", due is " + want);
+            tellWrong(call + " answered " + got + ", due is " + want);
         }
     }
 
+    private static void tellWrong(String text) {
+        wrong++;
+        System.out.println(told + text);
+    }
+
     static void yes(String call, boolean got) {
-        answer(call, 1, got ? 1 : 0);
+        answer(call, 1, bit(got));
     }
 
     static void no(String call, boolean got) {
-        answer(call, 0, got ? 1 : 0);
+        answer(call, 0, bit(got));
+    }
+
+    static long bit(boolean b) {
+        return b ? 1 : 0;
     }
 
     static void noIndex(String name, Call call) {
@@ -50,12 +66,12 @@ final class Due {
             }
             got = "threw " + e;
         }
-        wrong++;
-        System.out.println(name + " " + got + ", due is " + want.getSimpleName());
+        tellWrong(name + " " + got + ", due is " + want.getSimpleName());
     }
 
     static void end(String test) {
-        System.out.println(test + ": " + looked + " answers looked at, " + wrong + " not as due");
+        String of = sentences == 0 ? "" : " of " + sentences + " sentences";
+        System.out.println(test + ": " + looked + " answers" + of + " looked at, " + wrong + " not as due");
         if (wrong != 0 || looked == 0) {
             System.exit(1);
         }

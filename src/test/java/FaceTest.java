@@ -48,6 +48,7 @@ public final class FaceTest {
     public static void main(String[] args) throws IOException {
         Due.yes("the class is public and final",
                 Modifier.isPublic(PotVolumes.class.getModifiers()) && Modifier.isFinal(PotVolumes.class.getModifiers()));
+        Due.answer("NONE", -1, PotVolumes.NONE);
         methods();
         constructors();
         fields();
