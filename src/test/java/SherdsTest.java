@@ -76,6 +76,8 @@ public final class SherdsTest {
         byAll(2, Made.sherds(1000, 1));
         byAll(2, Made.sherds(501, 501));
         byAll(2, Made.sherds(1000, 1000));
+        // Of these two have room in one vessel in no way, and yet two rims have as many.
+        byAll(2, Made.sherds(600, 600, 600));
         byAll(3, Made.sherds(1000, 1000, 1));
         PotVolumes x = Made.profiles(2);
         for (int i = 1; i <= 60; i++) {

@@ -138,6 +138,8 @@ public final class TermsTest {
         Made.volume(Made.pot(0, 0, 2, 1, 2, 0, 3, 1), 3, 1, 1);
         // 4 / 3 and 1 / 27: what is below is 27, not 81.
         Made.volume(Made.pot(0, 0, 1, 2, 1, 0, 4, 1), 2, 37, 27);
+        // 21 / 2 and 127 / 12: 2 alone is what both have below.
+        Made.holds(Made.withWall(2, Made.pot(0, 2, 4, 5, 6, 6)), 5, 253, 12);
     }
 
     private static void nothingIsZeroOfOne() {
